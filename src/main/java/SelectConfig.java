@@ -1,5 +1,3 @@
-import java.util.Arrays;
-
 /**
  * Configurations of a build: settings and platforms, conditions, choices of values by the most
  * special condition, needs that change the configuration on the way, and the pairs of target and
@@ -276,7 +274,7 @@ public final class SelectConfig {
     }
 
     private static boolean hasBit(int bits, int bit) {
-        return (bits >>> bit & 1) != 0;
+        return ((bits >>> bit) & 1) != 0;
     }
 
     private boolean isMet(int condition, long code) {
@@ -305,7 +303,7 @@ public final class SelectConfig {
             int asking = conditions.askingAt(condition, i);
             int which = Askings.whichOf(asking);
             if (Askings.isAboutAxis(asking)) {
-                asked |= 1 << MAX_SETTINGS + which;
+                asked |= 1 << (MAX_SETTINGS + which);
             } else {
                 int base = settings.baseOf(which);
                 asked |= base == NONE ? 0 : 1 << base;
@@ -464,7 +462,7 @@ public final class SelectConfig {
         if (base == NONE) {
             return 1;
         }
-        return needs.valuesAt(need, i) & (1 << settings.values[base]) - 1;
+        return needs.valuesAt(need, i) & ((1 << settings.values[base]) - 1);
     }
 
     private static long afterChange(long code, int base, int value) {
@@ -536,7 +534,9 @@ public final class SelectConfig {
             if (count >= MAX_PLATFORMS) {
                 return NONE;
             }
-            Arrays.fill(axisValue, count * MAX_AXES, (count + 1) * MAX_AXES, NONE);
+            for (int axis = 0; axis < MAX_AXES; axis++) {
+                put(count, axis, NONE);
+            }
             return count++;
         }
 
@@ -567,12 +567,12 @@ public final class SelectConfig {
         }
 
         static int valueIn(long code, int setting) {
-            return (int) (code >>> setting * VALUE_BITS & VALUE_MASK);
+            return (int) ((code >>> (setting * VALUE_BITS)) & VALUE_MASK);
         }
 
         static long withValue(long code, int setting, int value) {
             int shift = setting * VALUE_BITS;
-            return code & ~(VALUE_MASK << shift) | (long) value << shift;
+            return (code & ~(VALUE_MASK << shift)) | ((long) value << shift);
         }
     }
 
@@ -692,18 +692,18 @@ public final class SelectConfig {
     /** What CHOOSING gives, in one long: its kind above, a VALUE or the two BRANCHES below. */
     private static final class Choices {
         static final int KIND_SHIFT = 32;
-        static final long VALUE_MASK = 0xFFFFFFFFL;
+        static final long LOW_HALF = 0xFFFFFFFFL;
 
         static long nothing() {
             return (long) NOTHING << KIND_SHIFT;
         }
 
         static long ofValue(int value) {
-            return (long) VALUE << KIND_SHIFT | value & VALUE_MASK;
+            return ((long) VALUE << KIND_SHIFT) | (value & LOW_HALF);
         }
 
         static long ofClash(int first, int second) {
-            return (long) CLASH << KIND_SHIFT | first * MAX_BRANCHES + second;
+            return ((long) CLASH << KIND_SHIFT) | (first * MAX_BRANCHES + second);
         }
 
         static int kindOf(long choice) {

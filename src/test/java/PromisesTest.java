@@ -56,6 +56,7 @@ public final class PromisesTest {
         expandTooManyConfigurations();
         pair();
         leftOut();
+        allFull();
         System.out.println(asked + " answers, " + wrong + " not as due");
         if (wrong != 0) {
             System.exit(1);
@@ -189,6 +190,10 @@ public final class PromisesTest {
         due("has: other platform still", x.has(0, 3, 2), true);
         due("has: other platform without", x.has(0, 3, NONE), true);
         due("has: it has none", x.holds(asksTwo, x.configuration(0)), false);
+        int asksZero = x.condition();
+        x.asks(asksZero, true, 0, 0);
+        due("has: value 0 of axis 0", x.holds(asksZero, x.configuration(0)), true);
+        due("has: a new platform has none", x.holds(asksZero, x.configuration(1)), false);
     }
 
     private static void condition() {
@@ -1119,5 +1124,55 @@ public final class PromisesTest {
         duePairs("left out: by a pair that was there", again,
             "0:700? 1:000? 1:100? 1:200? 1:300? 1:400? 1:500? 1:600? 1:700? 0:000! 0:100! 0:200! 0:300! "
                 + "0:400! 0:500! 0:600!");
+    }
+
+    /** Every table as full as it may be, and the last one of each used: nothing lies beyond its end. */
+    private static void allFull() {
+        SelectConfig x = new SelectConfig();
+        for (int i = 0; i < 15; i++) {
+            x.setting(8, 0);
+        }
+        for (int i = 0; i < 8; i++) {
+            x.platform();
+            x.has(i, 7, i);
+        }
+        for (int i = 0; i < 120 && x.value(59, 0) == NONE; i++) {
+            x.set(x.configuration(7), 14 - i / 8, i % 8);
+        }
+        due("full: setting", x.setting(8, 7), 15);
+        due("full: its fallback in the last one", x.value(59, 15), 7);
+        for (int i = 0; i < 40; i++) {
+            x.condition();
+            for (int axis = 2; axis < 7 && i < 39; axis++) {
+                x.asks(i, true, axis, 0);
+            }
+        }
+        for (int setting = 11; setting < 16; setting++) {
+            x.asks(39, false, setting, setting == 15 ? 7 : 0);
+        }
+        x.asks(39, true, 7, 7);
+        for (int i = 0; i < 16; i++) {
+            x.target();
+        }
+        for (int i = 0; i < 24; i++) {
+            x.select(15);
+            for (int branch = 0; branch < 8; branch++) {
+                x.branch(i, 39, i == 23, i == 23 ? 22 : branch / 7);
+            }
+        }
+        for (int i = 0; i < 40; i++) {
+            x.need(15, 15);
+            x.change(i, 15, 128);
+            x.change(i, 15, 128);
+        }
+        x.wants(15, 39);
+        int plain = x.configuration(7);
+        due("full: holds", x.holds(39, plain), true);
+        due("full: choose", x.choose(23, plain), 2);
+        due("full: the last branch", x.chosen(1), 7);
+        due("full: reads", x.reads(15), 0xF800);
+        due("full: trim", x.trim(15, plain), plain);
+        due("full: expand", x.expand(15, plain), 1);
+        due("full: pair", x.pair(0, 2), 0);
     }
 }
