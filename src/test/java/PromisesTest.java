@@ -1126,7 +1126,7 @@ public final class PromisesTest {
                 + "0:400! 0:500! 0:600!");
     }
 
-    /** Every table as full as it may be, and the last one of each used: nothing lies beyond its end. */
+    /** As many of each as there may be, and the last one of each used: nothing lies beyond its end. */
     private static void allFull() {
         SelectConfig x = new SelectConfig();
         for (int i = 0; i < 15; i++) {
@@ -1143,7 +1143,7 @@ public final class PromisesTest {
         due("full: its fallback in the last one", x.value(59, 15), 7);
         for (int i = 0; i < 40; i++) {
             x.condition();
-            for (int axis = 2; axis < 7 && i < 39; axis++) {
+            for (int axis = 2; axis < 7 && i == 38; axis++) {
                 x.asks(i, true, axis, 0);
             }
         }
@@ -1156,7 +1156,7 @@ public final class PromisesTest {
         }
         for (int i = 0; i < 24; i++) {
             x.select(15);
-            for (int branch = 0; branch < 8; branch++) {
+            for (int branch = 0; branch < 8 && i >= 22; branch++) {
                 x.branch(i, 39, i == 23, i == 23 ? 22 : branch / 7);
             }
         }
