@@ -1,5 +1,6 @@
 import java.util.ArrayList;
 import java.util.Arrays;
+import java.util.Collections;
 import java.util.HashSet;
 import java.util.LinkedHashMap;
 import java.util.List;
@@ -7,6 +8,7 @@ import java.util.Map;
 import java.util.Random;
 import java.util.Set;
 import java.util.TreeMap;
+import java.util.TreeSet;
 
 /**
  * Runs of 512 calls each, the same ones every time, compared with Model: a second reading of the
@@ -15,6 +17,7 @@ import java.util.TreeMap;
 public final class ModelTest {
     private static final int RUNS = 1500;
     private static final int CALLS = 512;
+    private static final int USED_BEFORE = 160;
     private static final String[] BUILDING = {
         "setting", "setting", "alias", "platform", "has", "has", "condition", "condition", "asks", "asks", "asks",
         "target", "wants", "select", "branch", "branch", "branch", "branch", "otherwise", "need", "need", "change",
@@ -22,6 +25,11 @@ public final class ModelTest {
     private static final String[] ASKING = {
         "base", "configuration", "set", "set", "value", "holds", "choose", "choose", "chosen", "chosen", "reads",
         "trim", "expand", "expand", "pair", "pair", "pair",
+    };
+
+    /** Numbers just within and just beyond the document's limits, and far ones. */
+    private static final int[] EDGES = {
+        Integer.MIN_VALUE, -2, -1, 0, 1, 2, 6, 7, 8, 9, 15, 16, 23, 24, 39, 40, 59, 60, 255, 256, Integer.MAX_VALUE,
     };
 
     public static void main(String[] args) {
@@ -42,31 +50,92 @@ public final class ModelTest {
             }
         }
         System.out.println(RUNS + " runs of " + CALLS + " calls agree with the model");
-        if (!enough) {
+        if (!enough || !edgesAgree()) {
             System.exit(1);
         }
     }
 
-    private static boolean agrees(int run, Map<String, Integer> seen) {
-        Random random = new Random(run);
-        SelectConfig x = new SelectConfig();
-        Model model = new Model();
-        List<String> calls = new ArrayList<>();
+    private static boolean agrees(int number, Map<String, Integer> seen) {
+        Random random = new Random(number);
+        Run run = new Run();
         int building = 20 + random.nextInt(75);
         for (int i = 0; i < CALLS; i++) {
             boolean builds = random.nextInt(100) < (i < CALLS / 2 ? building : building / 3);
             String name = pick(random, builds ? BUILDING : ASKING);
-            int[] a = arguments(name, random, model);
-            int got = call(x, name, a);
-            int want = model.call(name, a);
-            calls.add(name + Arrays.toString(a) + " -> " + got);
-            note(seen, name, a, got);
-            if (got != want) {
-                System.out.println("run " + run + ": " + String.join("\n", calls) + ", due is " + want);
+            int[] a = arguments(name, random, run.model);
+            if (!run.agreesOn(name, a)) {
+                return false;
+            }
+            note(seen, name, a, run.latest);
+        }
+        return true;
+    }
+
+    /** Every call with all its arguments at the edges, some hundreds on each of many objects in use. */
+    private static boolean edgesAgree() {
+        List<Call> calls = edgeCalls();
+        Collections.shuffle(calls, new Random(0));
+        Run run = new Run();
+        Random random = new Random(0);
+        for (int i = 0; i < calls.size(); i++) {
+            if (i % (CALLS - USED_BEFORE) == 0) {
+                run = new Run();
+                for (int j = 0; j < USED_BEFORE; j++) {
+                    String name = pick(random, j % 5 == 0 ? ASKING : BUILDING);
+                    if (!run.agreesOn(name, arguments(name, random, run.model))) {
+                        return false;
+                    }
+                }
+            }
+            if (!run.agreesOn(calls.get(i).name(), calls.get(i).arguments())) {
                 return false;
             }
         }
+        System.out.println(calls.size() + " calls with arguments at the edges agree with the model");
         return true;
+    }
+
+    private static List<Call> edgeCalls() {
+        Set<String> names = new TreeSet<>(Arrays.asList(BUILDING));
+        names.addAll(Arrays.asList(ASKING));
+        List<Call> calls = new ArrayList<>();
+        for (String name : names) {
+            int count = arguments(name, new Random(0), new Model()).length;
+            addEdgeCalls(calls, name, new int[count], 0);
+        }
+        return calls;
+    }
+
+    private static void addEdgeCalls(List<Call> calls, String name, int[] a, int at) {
+        if (at == a.length) {
+            calls.add(new Call(name, a.clone()));
+            return;
+        }
+        boolean yesOrNo = name.equals("asks") && at == 1 || name.equals("branch") && at == 2;
+        for (int edge : yesOrNo ? new int[] {0, 1} : EDGES) {
+            a[at] = edge;
+            addEdgeCalls(calls, name, a, at + 1);
+        }
+    }
+
+    private record Call(String name, int[] arguments) { }
+
+    /** An object and its model, and all calls that both have had. */
+    private static final class Run {
+        final SelectConfig x = new SelectConfig();
+        final Model model = new Model();
+        final List<String> calls = new ArrayList<>();
+        int latest;
+
+        boolean agreesOn(String name, int[] a) {
+            latest = call(x, name, a);
+            int want = model.call(name, a);
+            calls.add(name + Arrays.toString(a) + " -> " + latest);
+            if (latest != want) {
+                System.out.println(String.join("\n", calls) + ", due is " + want);
+            }
+            return latest == want;
+        }
     }
 
     private static void note(Map<String, Integer> seen, String name, int[] a, int got) {
