@@ -2175,6 +2175,29 @@ public final class BoundariesTest {
             x.expand(2, 0);
             due("fewer", pairs(x), "2:00");
         });
+        sentence("25: of the latest expand: what an earlier one's pairs led to leaves none out", x -> {
+            readers(x, 6);
+            x.wants(5, asking(x, 0, 1));
+            x.need(0, 1);
+            x.need(1, 2);
+            x.need(3, 4);
+            x.need(3, 5);
+            due("the second leads to the third", expanded(x, 0, 0), "3 0:00 1:00 2:00");
+            due("the second leads to none", expanded(x, 3, 0), "3 3:00? 4:00 5:00!");
+        });
+        sentence("25: of the latest expand: what one that was -2 led to leaves none out", x -> {
+            readers(x, 6);
+            x.wants(5, asking(x, 0, 1));
+            x.need(0, 1);
+            x.need(1, 2);
+            x.need(2, 2);
+            x.change(2, 0, 255);
+            x.change(2, 1, 255);
+            x.need(3, 4);
+            x.need(3, 5);
+            due("too many", x.expand(0, 0), -2);
+            due("the second leads to none", expanded(x, 3, 0), "3 3:00? 4:00 5:00!");
+        });
         sentence("25: NONE if there is none such", x -> {
             readers(x, 2);
             due("before any expand", x.pair(0, 0), NONE);

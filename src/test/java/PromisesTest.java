@@ -56,6 +56,7 @@ public final class PromisesTest {
         expandTooManyConfigurations();
         pair();
         leftOut();
+        leftOutAfterAnother();
         allFull();
         System.out.println(asked + " answers, " + wrong + " not as due");
         if (wrong != 0) {
@@ -1124,6 +1125,24 @@ public final class PromisesTest {
         duePairs("left out: by a pair that was there", again,
             "0:700? 1:000? 1:100? 1:200? 1:300? 1:400? 1:500? 1:600? 1:700? 0:000! 0:100! 0:200! 0:300! "
                 + "0:400! 0:500! 0:600!");
+    }
+
+    /** PAIRS stand in the same rows expand after expand: nothing of an earlier one may be left in them. */
+    private static void leftOutAfterAnother() {
+        SelectConfig x = threeReaders(6);
+        int one = x.condition();
+        x.asks(one, false, 0, 1);
+        x.wants(5, one);
+        x.need(0, 1);
+        x.need(1, 2);
+        x.need(3, 4);
+        x.need(3, 5);
+        x.expand(0, 0);
+        duePairs("left out: a chain, none", x, "0:000 1:000 2:000");
+        x.expand(3, 0);
+        duePairs("left out: the third, not the second", x, "3:000? 4:000 5:000!");
+        x.expand(0, 0);
+        duePairs("left out: the chain again", x, "0:000 1:000 2:000");
     }
 
     /** As many of each as there may be, and the last one of each used: nothing lies beyond its end. */
